@@ -11,6 +11,7 @@ public final class PointerBuckets {
 
     private static final int MOST_CALLS = 512;
     private static final int NOWHERE = -1;
+    private static final int ALL_BUT_SIGN = 0x7FFFFFFF;
 
     private final int base;
     private final int cap;
@@ -89,7 +90,7 @@ public final class PointerBuckets {
     }
 
     public int bucketOf(int key) {
-        int withoutSign = key & Integer.MAX_VALUE;
+        int withoutSign = key & ALL_BUT_SIGN;
         int bucket = withoutSign % bucketsAtLevelStart();
         return bucket < pointer ? withoutSign % (2 * bucketsAtLevelStart()) : bucket;
     }
