@@ -65,7 +65,9 @@ public final class PointerBucketsPromises {
         pagesOfBuckets();
         keysOfRows();
         clearIsAsAtFirst();
-        nothingThrowsBehindTheLastCall();
+        objectsAreApart();
+        theLastCallIsAnswered();
+        readmeExample();
         System.out.println(wrong == 0 ? "all answers are as due" : wrong + " answers are not as due");
         if (wrong != 0) {
             System.exit(1);
@@ -455,18 +457,46 @@ public final class PointerBucketsPromises {
         dueShape("promise 14: the same again", x, 7, 1, 3, 7, 13);
     }
 
-    private static void nothingThrowsBehindTheLastCall() {
-        PointerBuckets x = new PointerBuckets(1, 8, 300, 200);
-        for (int key = 0; key < 3000; key++) {
-            x.put(key, key);
+    private static void objectsAreApart() {
+        PointerBuckets x = new PointerBuckets(2, 1, 20, 7);
+        PointerBuckets y = new PointerBuckets(3, 2, 30, 9);
+        putAll("apart, x", x, PointerBuckets.NEW, 0, 1, 2);
+        dueShape("promise 1: y is as at first", y, 0, 0, 0, 3, 27);
+        due("promise 1: x's key is not in y", y.has(1), false);
+        putAll("apart, y", y, PointerBuckets.NEW, 1, 4);
+        due("apart: another value in y", y.put(1, 99), PointerBuckets.OLD);
+        due("promise 1: x's value is left alone", x.get(1), 2);
+        y.clear();
+        dueShape("promise 14: x is left alone", x, 3, 1, 0, 4, 16);
+        dueShape("promise 1: made behind both", new PointerBuckets(2, 1, 20, 7), 0, 0, 0, 2, 18);
+    }
+
+    private static void theLastCallIsAnswered() {
+        PointerBuckets x = new PointerBuckets(8, 8, 300, 200);
+        for (int key = 0; key < 510; key++) {
+            due("call " + (key + 1) + ": put", x.put(key, -key), PointerBuckets.NEW);
         }
-        for (int bucket = -1; bucket <= 201; bucket++) {
-            x.pages(bucket);
-            x.key(bucket, 0);
-        }
-        for (int key = 0; key < 3000; key++) {
-            x.remove(key);
-        }
-        x.clear();
+        due("call 511: remove", x.remove(255), true);
+        due("call 512: get", x.get(509), -509);
+    }
+
+    /** The example of README.md, line by line. */
+    private static void readmeExample() {
+        PointerBuckets map = new PointerBuckets(2, 4, 40, 20);
+        due("README: put(5, 50)", map.put(5, 50), PointerBuckets.NEW);
+        due("README: put(5, 51)", map.put(5, 51), PointerBuckets.OLD);
+        due("README: get(5)", map.get(5), 51);
+        due("README: get(6)", map.get(6), 0);
+        due("README: has(5)", map.has(5), true);
+        due("README: size()", map.size(), 1);
+        due("README: bucketOf(5)", map.bucketOf(5), 1);
+        due("README: key(1, 0)", map.key(1, 0), 5);
+        due("README: key(1, 1)", map.key(1, 1), PointerBuckets.BAD);
+        due("README: pages(1)", map.pages(1), 1);
+        due("README: free()", map.free(), 38);
+        due("README: remove(5)", map.remove(5), true);
+        due("README: remove(5) again", map.remove(5), false);
+        map.clear();
+        dueShape("README: clear()", map, 0, 0, 0, 2, 38);
     }
 }
